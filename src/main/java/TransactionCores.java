@@ -221,7 +221,7 @@ public final class TransactionCores {
     }
 
     private int load(Core core, int word) {
-        int address = core.registers[registerB(word)] + immediateOf(word);
+        int address = core.addressOf(word);
         Way found = access(core, lineOf(address), false);
         if (found == null) {
             return DID_ABORT;
@@ -231,7 +231,7 @@ public final class TransactionCores {
     }
 
     private int save(Core core, int word) {
-        int address = core.registers[registerB(word)] + immediateOf(word);
+        int address = core.addressOf(word);
         Way found = access(core, lineOf(address), true);
         if (found == null) {
             return DID_ABORT;
@@ -245,7 +245,7 @@ public final class TransactionCores {
         Way had = core.cache.find(line);
         Way used = had != null ? had : core.cache.room(line);
         if (used == null) {
-            core.abort(OVERFLOW, OVERFLOW);
+            core.abort(OVERFLOW, 0);
             return null;
         }
         if (had == null || (toWrite && had.state != MODIFIED)) {
@@ -293,7 +293,7 @@ public final class TransactionCores {
 
     private void meetRequest(Core core, Way met, boolean toWrite) {
         if ((met.marks & WRITE_MARK) != 0 || (toWrite && met.marks != 0)) {
-            core.abort(CONFLICT, CONFLICT);
+            core.abort(CONFLICT, 0);
         }
         if (met.state == INVALID) {
             return;
@@ -468,6 +468,10 @@ public final class TransactionCores {
             }
         }
 
+        int addressOf(int word) {
+            return registers[registerB(word)] + immediateOf(word);
+        }
+
         void branch(int word) {
             int a = registers[registerA(word)];
             boolean taken = kindOf(word) == 7 ? a == 0 : a < registers[registerB(word)];
@@ -478,7 +482,7 @@ public final class TransactionCores {
 
         int begin(int immediate) {
             if (depth == DEEPEST) {
-                return abort(NESTING, NESTING);
+                return abort(NESTING, 0);
             }
             if (depth == 0) {
                 System.arraycopy(registers, 0, noted, 0, REGISTERS);
@@ -502,23 +506,23 @@ public final class TransactionCores {
             if (depth == 0) {
                 return DID_ELSE;
             }
-            return abort(EXPLICIT, EXPLICIT + 8 * (immediate & 255));
+            return abort(EXPLICIT, 8 * (immediate & 255));
         }
 
         int fault(int before) {
             if (depth > 0) {
-                return abort(FAULT, FAULT);
+                return abort(FAULT, 0);
             }
             stopped = true;
             pc = before;
             return DID_STOP;
         }
 
-        int abort(int cause, int told) {
+        int abort(int cause, int more) {
             cache.dropWritten();
             cache.dropMarks();
             System.arraycopy(noted, 0, registers, 0, REGISTERS);
-            registers[CAUSE_REGISTER] = told;
+            registers[CAUSE_REGISTER] = cause + more;
             pc = fallback;
             depth = 0;
             fates[cause]++;
