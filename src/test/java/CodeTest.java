@@ -1,13 +1,13 @@
-/** Promise 2: words of programs. */
+/** Promise 2: words of programs; places and cores that are not there stand in NotThereTest. */
 public final class CodeTest {
     private static final Check check = new Check();
-    private static final int[] NOT_THERE = {-1, Integer.MIN_VALUE, Integer.MAX_VALUE};
 
     public static void main(String[] args) {
-        everyPlaceOfEveryCore();
-        laterWordReplacesEarlier();
-        wrongArguments();
-        inATransaction();
+        check.sentence("A word of a core's program.", CodeTest::everyPlaceOfEveryCore);
+        check.sentence("A word of a core's program. (a later one in its place)", CodeTest::laterWordReplacesEarlier);
+        check.sentence("A word of a core's program. (any word)", CodeTest::anyWord);
+        check.sentence("A word of a core's program. (nothing else)", CodeTest::nothingElse);
+        check.sentence("A word of a core's program. (an abort leaves it)", CodeTest::inATransaction);
         check.finish();
     }
 
@@ -33,33 +33,31 @@ public final class CodeTest {
         x.code(0, 0, Words.set(1, 6));
         x.step(0);
         check.same("the later word", x.register(0, 1), 6);
-        x.code(0, 0, -1);
-        x.jump(0, 0);
-        check.same("any int is a word (-1 is of kind 15)", x.step(0), 0);
     }
 
-    private static void wrongArguments() {
-        TransactionCores x = new TransactionCores(2, 1, 1);
-        Words.put(x, 0, Words.set(1, 5));
-        for (int bad : NOT_THERE) {
-            check.outOfBounds("core " + bad, () -> x.code(bad, 0, 1));
-            check.outOfBounds("place " + bad, () -> x.code(0, bad, 1));
-        }
-        check.outOfBounds("core 2 of 2", () -> x.code(2, 0, Words.FAULT));
-        check.outOfBounds("place 16", () -> x.code(0, 16, Words.FAULT));
-        check.same("nothing was changed", x.step(0), 4);
-        check.same("nothing was changed", x.register(0, 1), 5);
-        for (int place = 1; place < 16; place++) {
-            x.jump(0, place);
-            check.same("nothing was changed", x.step(0), 1);
+    private static void anyWord() {
+        TransactionCores x = new TransactionCores(1, 1, 1);
+        int[][] rows = {{-1, 0}, {Integer.MAX_VALUE, 0}, {Integer.MIN_VALUE, 1}, {0, 1}, {15, 0}};
+        for (int[] row : rows) {
+            x.code(0, 7, row[0]);
+            x.jump(0, 7);
+            check.same("the step of word " + row[0], x.step(0), row[1]);
         }
     }
 
-    /** A program is no part of what an abort undoes. */
+    /** A stopped core stays so, and a PC where it is. */
+    private static void nothingElse() {
+        TransactionCores x = new TransactionCores(1, 1, 1);
+        Words.does(x, 0, Words.set(1, 5), Words.FAULT);
+        x.code(0, 1, Words.set(1, 6));
+        check.same("stopped", x.register(0, 10), 1);
+        check.same("PC", x.register(0, 8), 1);
+        check.same("register", x.register(0, 1), 5);
+    }
+
     private static void inATransaction() {
         TransactionCores x = new TransactionCores(1, 1, 1);
-        Words.put(x, 0, Words.begin(2));
-        x.step(0);
+        Words.does(x, 0, Words.begin(2));
         x.code(0, 1, Words.abort(0));
         x.code(0, 3, Words.set(2, 9));
         check.same("the abort", x.step(0), 2);

@@ -77,4 +77,12 @@ final class Words {
         put(x, core, words);
         steps(x, core, words.length);
     }
+
+    /** Puts each word at the core's PC and does it. */
+    static void goOn(TransactionCores x, int core, int... words) {
+        for (int word : words) {
+            x.code(core, x.register(core, 8), word);
+            x.step(core);
+        }
+    }
 }
